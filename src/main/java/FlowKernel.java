@@ -7,7 +7,7 @@
 public final class FlowKernel {
     private static final int SLOTS = 8;
     private static final int CELLS = 128;
-    private static final int COUNTER_MOST = 32;
+    private static final int TAGS_EACH = 32;
     private static final int TAGS = 256;
     private static final int LABEL_MOST = 16;
     private static final int CAPABILITY_MOST = 40;
@@ -73,7 +73,7 @@ public final class FlowKernel {
     }
 
     public int counter(int slot, int n) {
-        if (!isSlot(slot) || n < 0 || n > COUNTER_MOST) {
+        if (!isSlot(slot) || n < 0 || n > TAGS_EACH) {
             return -1;
         }
         int before = slots[slot].counter;
@@ -215,7 +215,7 @@ public final class FlowKernel {
     }
 
     private boolean isThere(int tag) {
-        return isTag(tag) && tag % COUNTER_MOST < slots[tag / COUNTER_MOST].counter;
+        return isTag(tag) && tag % TAGS_EACH < slots[tag / TAGS_EACH].counter;
     }
 
     /** Only for a k that isFile has let through. */
@@ -623,10 +623,10 @@ public final class FlowKernel {
         }
 
         int newTag() {
-            if (counter >= COUNTER_MOST || plus.size >= CAPABILITY_MOST || minus.size >= CAPABILITY_MOST) {
+            if (counter >= TAGS_EACH || plus.size >= CAPABILITY_MOST || minus.size >= CAPABILITY_MOST) {
                 return -1;
             }
-            int tag = COUNTER_MOST * number + counter;
+            int tag = TAGS_EACH * number + counter;
             counter++;
             plus.add(tag);
             minus.add(tag);

@@ -170,6 +170,10 @@ public final class SetupTest {
 
     private static void file() {
         FlowKernel k = new FlowKernel();
+        Checks.due("tag 0 is not THERE", k.file(0, 0), -1);
+        Checks.due("file 0 was not made", k.fileTags(0), -1);
+        Checks.due("file 0", k.file(0, -1), 0);
+        Checks.due("file 0 is there", k.fileTags(0), 0);
         k.counter(0, 2);
         Checks.due("file 63", k.file(63, -1), 0);
         Checks.due("file is of slot 7", k.slot(7, 9), 1);

@@ -22,6 +22,7 @@ public final class SystemCallTest {
         read();
         write();
         spawn();
+        spawnOfNoSlot();
         spawnRefused();
         spawnOfCells();
         output();
@@ -387,6 +388,17 @@ public final class SystemCallTest {
                 Checks.due("SPAWN " + child + " by " + parent, got, may ? 1 : 0);
                 Checks.due("LIVE", k.slot(child, 0), may || child == parent ? 1 : 0);
             }
+        }
+    }
+
+    /** Numbers whose parent would be the slot, if they were slots. */
+    private static void spawnOfNoSlot() {
+        int[][] pairs = {{3, 8}, {7, 15}, {7, 16}, {0, 0}, {0, -1}};
+        for (int[] pair : pairs) {
+            FlowKernel k = new FlowKernel();
+            Checks.spin(k, pair[0]);
+            int got = Checks.call(k, pair[0], Checks.SPAWN, pair[1], 0, 1);
+            Checks.due("SPAWN " + pair[1] + " by " + pair[0], got, 0);
         }
     }
 
