@@ -1,4 +1,7 @@
-/** Compares answers with those that are due, and drives one slot of a kernel by single instructions. */
+/**
+ * Compares answers with those that are due, and drives one slot of a kernel by single instructions.
+ * It is sparing with calls, as nothing is promised of an object after its 512th one.
+ */
 final class Checks {
     static final int TAG = 0, CHANGE = 1, DROP = 2, SEND = 3, PASS = 4, RECEIVE = 5, CREATE = 6,
             READ = 7, WRITE = 8, SPAWN = 9, OUTPUT = 10, SIZE = 11;
@@ -33,20 +36,22 @@ final class Checks {
         return 32 * x + op;
     }
 
-    /** Sets cells one by one, and leaves those behind them as they are. */
+    /** Sets cells from a place on, and leaves those around them as they are. */
     static void load(FlowKernel k, int slot, int at, int... cells) {
-        for (int i = 0; i < cells.length; i++) {
-            int place = at + i;
-            int base = Math.min(place, 125);
-            int[] three = {k.cell(slot, base), k.cell(slot, base + 1), k.cell(slot, base + 2)};
-            three[place - base] = cells[i];
-            k.poke(slot, base, three[0], three[1], three[2]);
+        for (int done = 0; done < cells.length; done += 3) {
+            int place = Math.min(at + done, 125);
+            int[] three = new int[3];
+            for (int i = 0; i < 3; i++) {
+                int n = place + i - at;
+                three[i] = n >= 0 && n < cells.length ? cells[n] : k.cell(slot, place + i);
+            }
+            k.poke(slot, place, three[0], three[1], three[2]);
         }
     }
 
-    /** Starts a slot that turns on its place until it is driven. */
+    /** Starts a slot that turns on its place until it is driven; its cells 0 to 63 are then the driver's. */
     static void spin(FlowKernel k, int slot) {
-        load(k, slot, 0, op(13, 0));
+        k.poke(slot, 0, op(13, 0), 0, 0);
         k.start(slot);
     }
 
@@ -54,26 +59,49 @@ final class Checks {
     static void drive(FlowKernel k, int slot, int instruction) {
         int place = k.slot(slot, 3);
         if (place > 60) {
-            load(k, slot, place, op(13, 0));
-            load(k, slot, 0, op(13, 0));
+            k.poke(slot, place, op(13, 0), 0, 0);
+            k.poke(slot, 0, op(13, 0), 0, 0);
             k.run(8);
             place = 0;
         }
-        load(k, slot, place, instruction, op(13, place + 1));
+        k.poke(slot, place, instruction, op(13, place + 1), 0);
         k.run(8);
     }
 
     /** A system call of a spinning slot: what A is afterwards. */
     static int call(FlowKernel k, int slot, int number, int a, int b, int c) {
-        load(k, slot, 120, a, b, c);
+        k.poke(slot, 120, a, b, c);
         drive(k, slot, op(16, number));
         return k.slot(slot, 2);
     }
 
     /** A LIST in the cells from 90 on. */
     static int list(FlowKernel k, int slot, int... tags) {
-        load(k, slot, 90, tags.length);
-        load(k, slot, 91, tags);
+        int[] cells = new int[tags.length + 1];
+        cells[0] = tags.length;
+        System.arraycopy(tags, 0, cells, 1, tags.length);
+        load(k, slot, 90, cells);
         return 90;
+    }
+
+    /** A kernel whose slot 0 has done: A = a (from cell 100), then the instruction, with cell 101 as m. */
+    static FlowKernel after(int a, int m, int instruction) {
+        FlowKernel k = new FlowKernel();
+        k.poke(0, 100, a, m, 0);
+        k.poke(0, 0, op(1, 100), instruction, 0);
+        k.start(0);
+        k.run(9);
+        return k;
+    }
+
+    /** Slot 0 is TRAPPED, and stays as it is. */
+    static void trapped(String what, FlowKernel k, int trap, int place, int a) {
+        for (int round = 0; round < 2; round++) {
+            due(what + ": TRAPPED", k.slot(0, 0), 3);
+            due(what + ": TRAP", k.slot(0, 1), trap);
+            due(what + ": A", k.slot(0, 2), a);
+            due(what + ": PLACE", k.slot(0, 3), place);
+            k.run(80);
+        }
     }
 }

@@ -61,80 +61,61 @@ public final class InstructionTest {
         Checks.due("an IDLE slot does nothing", k.slot(1, 3), 0);
     }
 
-    /** A slot that has done: A = a (from cell 100), then the instruction, with cell 101 as m. */
-    private static FlowKernel after(int a, int m, int instruction) {
-        FlowKernel k = new FlowKernel();
-        k.poke(0, 100, a, m, 0);
-        k.poke(0, 0, Checks.op(1, 100), instruction, 0);
-        k.start(0);
-        k.run(9);
-        return k;
-    }
-
     private static void moves() {
-        Checks.due("1", after(5, -6, Checks.op(1, 101)).slot(0, 2), -6);
-        Checks.due("2", after(5, -6, Checks.op(2, 101)).cell(0, 101), 5);
-        Checks.due("2 at 0", after(5, -6, Checks.op(2, 0)).cell(0, 0), 5);
-        Checks.due("2 at 127", after(5, -6, Checks.op(2, 127)).cell(0, 127), 5);
-        Checks.due("3", after(5, -6, Checks.op(3, 99)).slot(0, 2), 99);
-        Checks.due("3 below 0", after(5, -6, Checks.op(3, -99)).slot(0, 2), -99);
-        Checks.due("3 greatest", after(5, -6, 0x7fffffe3).slot(0, 2), 67108863);
-        Checks.due("3 least", after(5, -6, 0x80000003).slot(0, 2), -67108864);
-        Checks.due("4", after(5, 100, Checks.op(4, 101)).slot(0, 2), 5);
-        Checks.due("4 at 127", after(5, 127, Checks.op(4, 101)).slot(0, 2), 0);
-        Checks.due("5", after(5, 127, Checks.op(5, 101)).cell(0, 127), 5);
-        Checks.due("5 leaves M", after(5, 127, Checks.op(5, 101)).cell(0, 101), 127);
-        Checks.due("5 at 0", after(5, 0, Checks.op(5, 101)).cell(0, 0), 5);
+        Checks.due("1", Checks.after(5, -6, Checks.op(1, 101)).slot(0, 2), -6);
+        Checks.due("2", Checks.after(5, -6, Checks.op(2, 101)).cell(0, 101), 5);
+        Checks.due("2 at 0", Checks.after(5, -6, Checks.op(2, 0)).cell(0, 0), 5);
+        Checks.due("2 at 127", Checks.after(5, -6, Checks.op(2, 127)).cell(0, 127), 5);
+        Checks.due("3", Checks.after(5, -6, Checks.op(3, 99)).slot(0, 2), 99);
+        Checks.due("3 below 0", Checks.after(5, -6, Checks.op(3, -99)).slot(0, 2), -99);
+        Checks.due("3 greatest", Checks.after(5, -6, 0x7fffffe3).slot(0, 2), 67108863);
+        Checks.due("3 least", Checks.after(5, -6, 0x80000003).slot(0, 2), -67108864);
+        Checks.due("4", Checks.after(5, 100, Checks.op(4, 101)).slot(0, 2), 5);
+        Checks.due("4 at 127", Checks.after(5, 127, Checks.op(4, 101)).slot(0, 2), 0);
+        Checks.due("5", Checks.after(5, 127, Checks.op(5, 101)).cell(0, 127), 5);
+        Checks.due("5 leaves M", Checks.after(5, 127, Checks.op(5, 101)).cell(0, 101), 127);
+        Checks.due("5 at 0", Checks.after(5, 0, Checks.op(5, 101)).cell(0, 0), 5);
     }
 
     private static void arithmetic() {
         int max = Integer.MAX_VALUE;
         int min = Integer.MIN_VALUE;
-        Checks.due("6", after(5, -6, Checks.op(6, 101)).slot(0, 2), -1);
-        Checks.due("6 wraps", after(max, 1, Checks.op(6, 101)).slot(0, 2), min);
-        Checks.due("7", after(5, -6, Checks.op(7, 101)).slot(0, 2), 11);
-        Checks.due("7 wraps", after(min, 1, Checks.op(7, 101)).slot(0, 2), max);
-        Checks.due("8", after(5, -6, Checks.op(8, 101)).slot(0, 2), -30);
-        Checks.due("8 wraps", after(65536, 65537, Checks.op(8, 101)).slot(0, 2), 65536);
-        Checks.due("9", after(-17, 5, Checks.op(9, 101)).slot(0, 2), -3);
-        Checks.due("9 below 0", after(17, -5, Checks.op(9, 101)).slot(0, 2), -3);
-        Checks.due("9 wraps", after(min, -1, Checks.op(9, 101)).slot(0, 2), min);
-        Checks.due("10", after(-17, 5, Checks.op(10, 101)).slot(0, 2), -2);
-        Checks.due("10 below 0", after(17, -5, Checks.op(10, 101)).slot(0, 2), 2);
-        Checks.due("10 of the least", after(min, -1, Checks.op(10, 101)).slot(0, 2), 0);
-        Checks.due("11", after(12, 10, Checks.op(11, 101)).slot(0, 2), 8);
-        Checks.due("12", after(12, 10, Checks.op(12, 101)).slot(0, 2), 6);
-        Checks.due("arithmetic leaves M", after(12, 10, Checks.op(12, 101)).cell(0, 101), 10);
-        Checks.due("arithmetic goes on", after(12, 10, Checks.op(6, 101)).slot(0, 0), 1);
+        Checks.due("6", Checks.after(5, -6, Checks.op(6, 101)).slot(0, 2), -1);
+        Checks.due("6 wraps", Checks.after(max, 1, Checks.op(6, 101)).slot(0, 2), min);
+        Checks.due("7", Checks.after(5, -6, Checks.op(7, 101)).slot(0, 2), 11);
+        Checks.due("7 wraps", Checks.after(min, 1, Checks.op(7, 101)).slot(0, 2), max);
+        Checks.due("8", Checks.after(5, -6, Checks.op(8, 101)).slot(0, 2), -30);
+        Checks.due("8 wraps", Checks.after(65536, 65537, Checks.op(8, 101)).slot(0, 2), 65536);
+        Checks.due("9", Checks.after(-17, 5, Checks.op(9, 101)).slot(0, 2), -3);
+        Checks.due("9 below 0", Checks.after(17, -5, Checks.op(9, 101)).slot(0, 2), -3);
+        Checks.due("9 wraps", Checks.after(min, -1, Checks.op(9, 101)).slot(0, 2), min);
+        Checks.due("10", Checks.after(-17, 5, Checks.op(10, 101)).slot(0, 2), -2);
+        Checks.due("10 below 0", Checks.after(17, -5, Checks.op(10, 101)).slot(0, 2), 2);
+        Checks.due("10 of the least", Checks.after(min, -1, Checks.op(10, 101)).slot(0, 2), 0);
+        Checks.due("11", Checks.after(12, 10, Checks.op(11, 101)).slot(0, 2), 8);
+        Checks.due("12", Checks.after(12, 10, Checks.op(12, 101)).slot(0, 2), 6);
+        Checks.due("arithmetic leaves M", Checks.after(12, 10, Checks.op(12, 101)).cell(0, 101), 10);
+        Checks.due("arithmetic goes on", Checks.after(12, 10, Checks.op(6, 101)).slot(0, 0), 1);
     }
 
     private static void jumps() {
-        Checks.due("13", after(5, 0, Checks.op(13, 50)).slot(0, 3), 50);
-        Checks.due("13 to nowhere", after(5, 0, Checks.op(13, 900)).slot(0, 3), 900);
-        Checks.due("13 to nowhere is no TRAP yet", after(5, 0, Checks.op(13, 900)).slot(0, 0), 1);
-        Checks.due("14 with 0", after(0, 0, Checks.op(14, 50)).slot(0, 3), 50);
-        Checks.due("14 with 1", after(1, 0, Checks.op(14, 50)).slot(0, 3), 2);
-        Checks.due("14 with -1", after(-1, 0, Checks.op(14, 50)).slot(0, 3), 2);
-        Checks.due("15 with -1", after(-1, 0, Checks.op(15, 50)).slot(0, 3), 50);
-        Checks.due("15 with 0", after(0, 0, Checks.op(15, 50)).slot(0, 3), 2);
-        Checks.due("15 with 1", after(1, 0, Checks.op(15, 50)).slot(0, 3), 2);
-        Checks.due("jumps leave A", after(-1, 0, Checks.op(15, 50)).slot(0, 2), -1);
-    }
-
-    private static void trapped(String what, FlowKernel k, int trap, int place, int a) {
-        Checks.due(what + ": TRAPPED", k.slot(0, 0), 3);
-        Checks.due(what + ": TRAP", k.slot(0, 1), trap);
-        Checks.due(what + ": PLACE", k.slot(0, 3), place);
-        Checks.due(what + ": A", k.slot(0, 2), a);
-        k.run(80);
-        Checks.due(what + ": it stays", k.slot(0, 3), place);
+        Checks.due("13", Checks.after(5, 0, Checks.op(13, 50)).slot(0, 3), 50);
+        Checks.due("13 to nowhere", Checks.after(5, 0, Checks.op(13, 900)).slot(0, 3), 900);
+        Checks.due("13 to nowhere is no TRAP yet", Checks.after(5, 0, Checks.op(13, 900)).slot(0, 0), 1);
+        Checks.due("14 with 0", Checks.after(0, 0, Checks.op(14, 50)).slot(0, 3), 50);
+        Checks.due("14 with 1", Checks.after(1, 0, Checks.op(14, 50)).slot(0, 3), 2);
+        Checks.due("14 with -1", Checks.after(-1, 0, Checks.op(14, 50)).slot(0, 3), 2);
+        Checks.due("15 with -1", Checks.after(-1, 0, Checks.op(15, 50)).slot(0, 3), 50);
+        Checks.due("15 with 0", Checks.after(0, 0, Checks.op(15, 50)).slot(0, 3), 2);
+        Checks.due("15 with 1", Checks.after(1, 0, Checks.op(15, 50)).slot(0, 3), 2);
+        Checks.due("jumps leave A", Checks.after(-1, 0, Checks.op(15, 50)).slot(0, 2), -1);
     }
 
     private static void trapsOfPlace() {
         for (int place : new int[] {-1, 128, 67108863, -67108864}) {
-            FlowKernel k = after(5, 0, Checks.op(13, place));
+            FlowKernel k = Checks.after(5, 0, Checks.op(13, place));
             k.run(8);
-            trapped("no cell at " + place, k, 2, place, 5);
+            Checks.trapped("no cell at " + place, k, 2, place, 5);
         }
         FlowKernel end = new FlowKernel();
         end.poke(0, 125, 0, 0, Checks.op(3, 8));
@@ -143,34 +124,34 @@ public final class InstructionTest {
         end.run(16);
         Checks.due("the last cell is done", end.slot(0, 2), 8);
         end.run(8);
-        trapped("behind the last cell", end, 2, 128, 8);
+        Checks.trapped("behind the last cell", end, 2, 128, 8);
     }
 
     private static void trapsOfCells() {
         for (int op : new int[] {1, 2, 4, 5, 6, 7, 8, 9, 10, 11, 12}) {
-            trapped(op + " at -1", after(5, 1, Checks.op(op, -1)), 2, 2, 5);
-            trapped(op + " at 128", after(5, 1, Checks.op(op, 128)), 2, 2, 5);
+            Checks.trapped(op + " at -1", Checks.after(5, 1, Checks.op(op, -1)), 2, 2, 5);
+            Checks.trapped(op + " at 128", Checks.after(5, 1, Checks.op(op, 128)), 2, 2, 5);
         }
         for (int op : new int[] {4, 5}) {
             for (int m : new int[] {-1, 128, Integer.MIN_VALUE, Integer.MAX_VALUE}) {
-                trapped(op + " by " + m, after(5, m, Checks.op(op, 101)), 2, 2, 5);
+                Checks.trapped(op + " by " + m, Checks.after(5, m, Checks.op(op, 101)), 2, 2, 5);
             }
         }
-        Checks.due("5 did nothing else", after(5, 128, Checks.op(5, 101)).cell(0, 101), 128);
+        Checks.due("5 did nothing else", Checks.after(5, 128, Checks.op(5, 101)).cell(0, 101), 128);
     }
 
     private static void trapsOfDivisor() {
-        trapped("9 by 0", after(5, 0, Checks.op(9, 101)), 3, 2, 5);
-        trapped("10 by 0", after(5, 0, Checks.op(10, 101)), 3, 2, 5);
+        Checks.trapped("9 by 0", Checks.after(5, 0, Checks.op(9, 101)), 3, 2, 5);
+        Checks.trapped("10 by 0", Checks.after(5, 0, Checks.op(10, 101)), 3, 2, 5);
     }
 
     private static void unknownInstructions() {
         for (int op = 17; op < 32; op++) {
-            trapped("instruction " + op, after(5, 0, Checks.op(op, 1)), 1, 2, 5);
-            trapped("instruction " + op + " with no cell", after(5, 0, Checks.op(op, -1)), 1, 2, 5);
+            Checks.trapped("instruction " + op, Checks.after(5, 0, Checks.op(op, 1)), 1, 2, 5);
+            Checks.trapped("instruction " + op + " with no cell", Checks.after(5, 0, Checks.op(op, -1)), 1, 2, 5);
         }
         for (int x : new int[] {-1, 12, 13, 67108863, -67108864}) {
-            trapped("system call " + x, after(5, 0, Checks.op(16, x)), 1, 2, 5);
+            Checks.trapped("system call " + x, Checks.after(5, 0, Checks.op(16, x)), 1, 2, 5);
         }
     }
 }

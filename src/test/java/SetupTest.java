@@ -20,8 +20,8 @@ public final class SetupTest {
     }
 
     private static void newObject() {
-        FlowKernel k = new FlowKernel();
         for (int s = 0; s < 8; s++) {
+            FlowKernel k = new FlowKernel();
             for (int what = 0; what <= 10; what++) {
                 Checks.due("new: slot(" + s + ", " + what + ")", k.slot(s, what), 0);
             }
@@ -32,6 +32,7 @@ public final class SetupTest {
             Checks.due("new: outputTags", k.outputTags(s, 0), -1);
             Checks.due("new: mayFlow", k.mayFlow(s, 7 - s), true);
         }
+        FlowKernel k = new FlowKernel();
         for (int f = 0; f < 64; f++) {
             Checks.due("new: fileTags(" + f + ")", k.fileTags(f), -1);
         }
