@@ -75,7 +75,8 @@ public final class FaceTest {
     }
 
     private static void words() throws Exception {
-        String source = Files.readString(Path.of(System.getProperty("flowkernel.source", "src/main/java/FlowKernel.java")));
+        Path root = Path.of(System.getProperty("flowkernel.root", "."));
+        String source = Files.readString(root.resolve("src/main/java/FlowKernel.java"));
         String code = source.replaceAll("(?s)/\\*.*?\\*/", "").replaceAll("//[^\n]*", "");
         Pattern ruledOut = Pattern.compile("\\b(throw|throws|try|catch|finally|synchronized|assert|import|package|"
                 + "volatile|native|System|Object|hashCode|toString|equals)\\b|->|::|@");
